@@ -168,6 +168,15 @@ public final class PromisesTest {
         due("missing", room.picture(0, -1, MIN, 99), 0);
         due("is missing", room.about(0, 0), NONE);
         due("missing again", room.picture(0, -1, 1, 1), 0);
+        lay(3, 1, 2, -1, -2, -3, -4);
+        for (int i = 0; i < 40; i++) {
+            room.put(3, 0, 0, i - 50);
+        }
+        due("after many acts", room.picture(4, 1, 16, 16), 0);
+        due("all are 0", room.about(4, 3), 0);
+        due("missing after many acts", room.picture(3, -1, 1, 1), 0);
+        due("missing after many acts", room.about(3, 0), NONE);
+        due("missing after many acts", room.put(3, 0, 0, 0), BAD);
     }
 
     private void put() {
@@ -288,6 +297,10 @@ public final class PromisesTest {
         duePicture("kept", 1, 0, 2, 0, 255, 100, 255);
         due("cut", room.convert(0, 2, 0, 1), 3);
         duePicture("cut", 2, 0, 2, 212, 44, 100, 0);
+        lay(6, 1, 2, -299, 511);
+        due("cut, odd", room.convert(6, 6, 0, 1), 2);
+        duePicture("cut, odd", 6, 0, 2, 213, 255);
+        room.picture(6, -1, 0, 0);
         due("shorts, kept", room.convert(0, 3, 1, 0), 0);
         duePicture("shorts, kept", 3, 1, 2, -300, 300, 100, 256);
         due("shorts, cut", room.convert(0, 3, 1, 1), 0);
@@ -321,6 +334,8 @@ public final class PromisesTest {
         duePicture("nought", 1, 1, 3, 0, 1, -2, 0, 3, 4, 0, 0, 0);
         due("far", room.cut(0, 1, -100, 100, 16, 16, 0), 0);
         due("far", room.about(1, 5), 16 * 16 * 3);
+        due("far", room.cut(0, 1, 100, -100, 16, 16, 0), 0);
+        due("far", room.about(1, 5), 16 * 16 * -2);
         due("itself", room.cut(0, 0, 0, 0, 3, 1, 2), 0);
         duePicture("itself", 0, 1, 3, 1, -2, 1);
         due("missing", room.cut(5, 0, 0, 0, 1, 1, 0), NO);
@@ -387,7 +402,13 @@ public final class PromisesTest {
             due("wrong " + w[0] + " " + w[1] + " " + w[2], room.filter(w[0], w[1], w[2]), BAD);
         }
         due("count", room.count(0), 9);
-        for (int i = 9; i < 24; i++) {
+        due("TIMES, least", room.filter(3, -100000, 1), 9);
+        due("ADD, greatest", room.filter(0, 100000, 0), 10);
+        due("STEP, least", room.filter(2, -100000, 0), 11);
+        due("SQUARE, least", room.filter(4, 1, 0), 12);
+        due("RANK, least", room.filter(5, 0, 0), 13);
+        due("WHERE, least", room.filter(7, 0, 0), 14);
+        for (int i = 15; i < 24; i++) {
             due("more", room.filter(1, 0, 0), i);
         }
         due("25th", room.filter(1, 0, 0), FULL);
@@ -520,6 +541,11 @@ public final class PromisesTest {
         lay(0, 1, 2, -5, 5);
         room.apply(0, room.filter(5, 0, 0), 0);
         duePicture("rank of shorts", 0, 1, 2, -5, -5);
+        for (int k = 0; k < 9; k++) {
+            lay(0, 0, 3, 9, 8, 7, 6, 5, 4, 3, 2, 1);
+            room.apply(0, room.filter(5, k, 0), 0);
+            due("rank " + k + " of falling ones", room.at(0, 1, 1, 0), k + 1);
+        }
     }
 
     private void applyTogether() {
@@ -563,6 +589,20 @@ public final class PromisesTest {
         lay(0, 0, 2, 1, 2, 3, 4);
         room.apply(0, thenWhere, 0);
         duePicture("WHERE leaves what it is given", 0, 0, 2, 201, 202, 203, 51);
+        int where2 = room.filter(7, 2, where);
+        int where1 = room.filter(7, 1, where2);
+        for (int m = 1; m < 4; m++) {
+            room.mask(m, 0, 0, m > 1);
+            room.mask(m, 1, 0, true);
+        }
+        lay(0, 0, 2, 1, 2);
+        due("WHERE of WHERE of WHERE", room.apply(0, where1, 0), 1);
+        duePicture("WHERE of WHERE of WHERE", 0, 0, 2, 1, 253);
+        int bothHigh = room.filter(8, room.filter(6, twice, add), fourTimes);
+        room.weight(shift, 3, 1);
+        lay(0, 0, 6, 1, 2, 3, 4, 5, 6);
+        room.apply(0, bothHigh, 2);
+        duePicture("BOTH of THENs", 0, 0, 6, 104, 105, 103, 104, 102, 103);
     }
 
     private void applyWrong() {
@@ -612,6 +652,11 @@ public final class PromisesTest {
         due("OFF elsewhere", room.isOn(2, 9, 9), 0);
         due("low above high", room.maskOf(2, 0, 6, -5), 0);
         due("all", room.maskOf(2, 0, MIN, MAX), 6);
+        room.maskBy(4, 5, 3);
+        for (int i = 0; i < 40; i++) {
+            room.maskBy(4, 4, 4);
+        }
+        due("after many acts", room.maskOf(1, 0, -5, 6), 4);
         due("missing", room.maskOf(2, 1, 0, 0), NO);
         due("missing, no mask", room.maskOf(6, 1, 0, 0), BAD);
         due("no picture", room.maskOf(0, 8, 0, 0), BAD);
@@ -661,6 +706,16 @@ public final class PromisesTest {
         due("itself, shrunk", room.maskBy(3, 3, 6), 252);
         due("itself, grown", room.maskBy(3, 3, 5), 255);
         due("the hole stays", room.isOn(3, 0, 3), 0);
+        room.maskBy(3, 4, 3);
+        int[][] holes = {{7, 7}, {0, 0}, {15, 2}, {3, 15}};
+        for (int[] hole : holes) {
+            room.mask(3, hole[0], hole[1], false);
+        }
+        due("holes shrunk", room.maskBy(3, 3, 6), 256 - 5 - 3 - 4 - 4);
+        int[][] off = {{6, 7}, {8, 7}, {7, 6}, {7, 8}, {1, 0}, {0, 1}, {14, 2}, {15, 1}, {15, 3}, {2, 15}, {4, 15}, {3, 14}};
+        for (int[] xy : off) {
+            due("holes shrunk at " + xy[0] + " " + xy[1], room.isOn(3, xy[0], xy[1]), 0);
+        }
     }
 
     private void fill() {
@@ -677,6 +732,17 @@ public final class PromisesTest {
         due("wide", room.fill(1, 0, 0, 65534, 5), 1);
         duePicture("wide", 1, 1, 3, 5, 32767, 0);
         due("not across corners", fillDiagonal(), 1);
+        lay(3, 0, 1, 4, 4, 4, 5);
+        due("one wide", room.fill(3, 0, 1, 0, 6), 3);
+        duePicture("one wide", 3, 0, 1, 6, 6, 6, 5);
+        room.picture(3, 1, 16, 16);
+        due("all of the greatest", room.fill(3, 8, 8, 0, -1), 256);
+        due("all of the greatest", room.about(3, 5), -256);
+        room.picture(3, 0, 3, 3);
+        room.put(3, 1, 0, 1);
+        room.put(3, 1, 1, 1);
+        due("a way around", room.fill(3, 0, 0, 0, 9), 7);
+        duePicture("a way around", 3, 0, 3, 9, 1, 9, 9, 1, 9, 9, 9, 9);
         due("t below 0", room.fill(0, 0, 0, -1, 0), BAD);
         due("BAD comes first", room.fill(7, 0, 0, MIN, 0), BAD);
         due("no picture", room.fill(8, 0, 0, 0, 0), BAD);
@@ -714,6 +780,7 @@ public final class PromisesTest {
         lay(0, 0, 3, 60, 60, 60, 60, 60, 60);
         room.dither(0, 2);
         duePicture("carried to the left beneath", 0, 0, 3, 0, 0, 0, 0, 255, 0);
+        carried();
         due("n = 1", room.dither(0, 1), BAD);
         due("n = 17", room.dither(0, 17), BAD);
         due("n = 1, missing", room.dither(1, 1), BAD);
@@ -722,6 +789,34 @@ public final class PromisesTest {
         due("no picture", room.dither(-1, 2), BAD);
         lay(1, 1, 1, 5);
         due("shorts", room.dither(1, 2), NO);
+    }
+
+    /** Two levels: 128 becomes 255, 127 becomes 0, so each part that is carried shows by one. */
+    private void carried() {
+        dithered("right", 2, new int[] {127, 73}, 0, 255);
+        dithered("right", 2, new int[] {127, 72}, 0, 0);
+        dithered("right, below 0", 2, new int[] {128, 183}, 255, 255);
+        dithered("right, below 0", 2, new int[] {128, 182}, 255, 0);
+        dithered("beneath", 1, new int[] {127, 89}, 0, 255);
+        dithered("beneath", 1, new int[] {127, 88}, 0, 0);
+        dithered("beneath, below 0", 1, new int[] {128, 167}, 255, 255);
+        dithered("beneath, below 0", 1, new int[] {128, 166}, 255, 0);
+        dithered("to the left", 2, new int[] {0, 127, 105, 255}, 0, 0, 255, 255);
+        dithered("to the left", 2, new int[] {0, 127, 104, 0}, 0, 0, 0, 0);
+        dithered("to the left, below 0", 2, new int[] {255, 128, 151, 255}, 255, 255, 255, 255);
+        dithered("to the left, below 0", 2, new int[] {255, 128, 150, 0}, 255, 255, 0, 0);
+        dithered("what is left", 2, new int[] {127, 200, 216, 118}, 0, 255, 255, 255);
+        dithered("what is left", 2, new int[] {127, 200, 216, 117}, 0, 255, 255, 0);
+        dithered("what is left, below 0", 2, new int[] {128, 55, 39, 138}, 255, 0, 0, 255);
+        dithered("what is left, below 0", 2, new int[] {128, 55, 39, 137}, 255, 0, 0, 0);
+        dithered("above the greatest", 2, new int[] {127, 255, 255, 80}, 0, 255, 255, 255);
+        dithered("above the greatest", 2, new int[] {127, 255, 255, 79}, 0, 255, 255, 0);
+    }
+
+    private void dithered(String call, int w, int[] from, int... to) {
+        lay(0, 0, w, from);
+        due(call, room.dither(0, 2), changes(from, to));
+        duePicture(call, 0, 0, w, to);
     }
 
     private void even() {
@@ -817,6 +912,9 @@ public final class PromisesTest {
         due("goes", room.seamGoes(0, 0), 1);
         due("WIDTH 0", room.seamGoes(0, 0), NO);
         due("doubled", room.seamGoes(0, 1), 2);
+        lay(1, 0, 4, 0, 50, 50, 50, 90, 9, 8, 7);
+        due("traced anew", room.seamGoes(1, 0), 3);
+        duePicture("traced anew", 1, 0, 3, 0, 50, 50, 90, 9, 7);
         lay(1, 1, 3, 0, 9, 9, 0, -9, 9);
         int top = room.seam(1, 0);
         int bottom = room.seam(1, 1);
@@ -909,6 +1007,14 @@ public final class PromisesTest {
         }
         duePicture("stays", 0, 0, 1, 42);
         due("no acts", room.count(2), acts);
+        for (int i = 0; i < 3; i++) {
+            readOf(1, 1, 1, 1, 1, 5, 5);
+            due("bytes of an earlier tape are gone: " + i, readOf(0, java.util.Arrays.copyOf(new int[] {1, 1}, i)), -1 - i);
+        }
+        readOf(1, 0, 3, 1, 1, 5, 1, 6, 1, 7);
+        due("bytes of an earlier tape are gone", readOf(0, 0, 3, 1, 1, 5), -6);
+        readOf(1, 0, 3, 1, 1, 5, 1, 6, 1, 7);
+        due("bytes of an earlier tape are gone", readOf(0, 0, 3, 1), -4);
     }
 
     private void byteTo() {
