@@ -774,6 +774,12 @@ public final class PromisesTest {
         duePicture("127 of two", 0, 0, 1, 0);
         lay(0, 0, 3, 0, 17, 255);
         due("sixteen levels", room.dither(0, 16), 0);
+        int[][] nearest = {{8, 0}, {9, 17}, {25, 17}, {26, 34}, {246, 238}, {247, 255}};
+        for (int[] one : nearest) {
+            lay(0, 0, 1, one[0]);
+            room.dither(0, 16);
+            due("sixteen levels, " + one[0], room.at(0, 0, 0, 0), one[1]);
+        }
         lay(0, 0, 1, 100, 100, 100);
         due("one wide", room.dither(0, 2), 3);
         duePicture("one wide", 0, 0, 1, 0, 255, 0);
@@ -1148,6 +1154,10 @@ public final class PromisesTest {
         for (int what = 0; what < 5; what++) {
             due("count " + what, room.count(what), want[what]);
         }
+        for (int p = 0; p < 8; p++) {
+            room.picture(p, 0, 1, 1);
+        }
+        due("all eight", room.count(1), 8);
         due("what", room.count(5), BAD);
         due("what", room.count(-1), BAD);
         due("what", room.count(MIN), BAD);
