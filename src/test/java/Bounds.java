@@ -67,6 +67,11 @@ abstract class Bounds {
         }
     }
 
+    /** A call that is no act and is answered, but leaves all as it is. */
+    final void noAct(int want, String name, Call call, int... told) {
+        refusedIn(withTape, want, name, call, told);
+    }
+
     final void refusedIn(Scene scene, int want, String name, Call call, int... told) {
         String text = name + java.util.Arrays.toString(told);
         due(text, call.on(scene.made(), told), want);

@@ -15,6 +15,7 @@ final class BoundsOfActs extends Bounds {
         refusals();
         acts();
         actsOfNothing();
+        worn();
         others();
         kept();
         undo();
@@ -121,6 +122,40 @@ final class BoundsOfActs extends Bounds {
         due("read is an act", room.count(2), 3);
         due("read is taken back", room.undo(), 1);
         duePicture("read is taken back", 0, BYTES, 2, 9, 8);
+    }
+
+    private void worn() {
+        says(27, "16 are kept;");
+        Scene.Steps base = r -> {
+            r.picture(0, BYTES, 3, 2);
+            r.feed(0, 0, 0, 0x3C32281E140AL, 6);
+            r.picture(1, SHORTS, 2, 2);
+            r.feed(1, 0, 0, 0x7FFF_8000_FFFF_0102L, 8);
+            r.filter(4, 2, 0);
+            r.weight(0, 5, 1);
+            r.filter(7, 1, 0);
+            r.filter(8, 0, 1);
+            for (int v : numbers(0, 2, 1, 1, 9, 1, 8)) {
+                r.byteTo(v);
+            }
+        };
+        Call[] acts = {(r, a) -> r.picture(2, BYTES, 16, 16), (r, a) -> r.picture(0, MISSING, 0, 0),
+            (r, a) -> r.put(0, 0, 0, 1), (r, a) -> r.feed(0, 0, 0, 7L, 2), (r, a) -> r.convert(1, 2, BYTES, 0),
+            (r, a) -> r.cut(0, 2, -3, -3, 16, 16, NOUGHT), (r, a) -> r.turn(0, 2, 5), (r, a) -> r.apply(0, 0, HELD),
+            (r, a) -> r.apply(1, 1, HELD), (r, a) -> r.apply(1, 2, NOUGHT), (r, a) -> r.mask(0, 3, 3, true),
+            (r, a) -> r.maskOf(1, 0, 20, 40), (r, a) -> r.maskBy(2, 1, 5), (r, a) -> r.maskBy(2, 1, 0),
+            (r, a) -> r.fill(0, 0, 0, 10, 9), (r, a) -> r.dither(0, 3), (r, a) -> r.even(0),
+            (r, a) -> r.seamGoes(0, 0), (r, a) -> r.seamGoes(0, 1), (r, a) -> r.read(1)};
+        for (int i = 0; i < acts.length; i++) {
+            Call act = acts[i];
+            Scene unworn = new Scene(base);
+            Scene worn = new Scene(Scene::wear).then(base);
+            room = worn.made();
+            due("act " + i, act.on(room, numbers()), act.on(unworn.made(), numbers()));
+            due("act " + i + " after more acts than are kept", room.count(2), 16);
+            dueLike("act " + i + " after more acts than are kept", worn.then(r -> act.on(r, numbers())),
+                    unworn.then(r -> act.on(r, numbers())), Sight.ACTS);
+        }
     }
 
     private void others() {
@@ -278,7 +313,7 @@ final class BoundsOfActs extends Bounds {
                 + "again, 4 bytes of THE TAPE. BAD.");
         int[] want = {9, 6, 14, 2, 7};
         for (int what = 0; what <= 4; what++) {
-            refused(want[what], "no act: count", COUNT, numbers(what));
+            noAct(want[what], "count", COUNT, what);
             due("a new object", room.count(what), 0);
         }
         refused(BAD, "count", COUNT, numbers(-1), numbers(5), numbers(MIN), numbers(MAX));

@@ -154,9 +154,39 @@ final class BoundsOfFilters extends Bounds {
             due("the HIGHEST works", room.apply(0, 3, HELD), kind == WHERE ? 1 : 2);
             due("the HIGHEST works", room.about(0, 5), kind == WHERE ? 255 : 510);
         }
+        highAtWork();
         // Of a furnished room: 2 is 2 HIGH, 3 is 3 HIGH, 4 is 4 HIGH.
         refused(BAD, "filter", FILTER, numbers(THEN, 4, 0), numbers(THEN, 0, 4), numbers(WHERE, 0, 4),
                 numbers(BOTH, 4, 0), numbers(BOTH, 0, 4), numbers(BOTH, 4, 4));
+    }
+
+    /** A FILTER that moves all by one to the right shows how often, and of which PICTURE, each part is made. */
+    private void highAtWork() {
+        room = new DarkRoom();
+        room.filter(SQUARE, 1, 0);
+        room.weight(0, 3, 1);
+        room.filter(THEN, 0, 0);
+        room.filter(THEN, 1, 0);
+        room.filter(THEN, 2, 0);
+        room.filter(THEN, 0, 1);
+        room.filter(THEN, 0, 4);
+        room.filter(THEN, 1, 1);
+        room.filter(THEN, 6, 6);
+        room.filter(BOTH, 2, 4);
+        room.filter(BOTH, 1, 6);
+        room.filter(BOTH, 0, 1);
+        room.filter(THEN, 10, 1);
+        room.filter(THEN, 1, 10);
+        int[][] want = {{0, 8, 16, 24, 32, 40, 48, 56, 64}, {0, 0, 8, 16, 24, 32, 40, 48, 56},
+            {0, 0, 0, 8, 16, 24, 32, 40, 48}, {0, 0, 0, 0, 8, 16, 24, 32, 40}, {0, 0, 0, 8, 16, 24, 32, 40, 48},
+            {0, 0, 0, 0, 8, 16, 24, 32, 40}, {0, 0, 0, 0, 8, 16, 24, 32, 40}, {0, 0, 0, 0, 0, 0, 0, 0, 8},
+            {0, 0, 0, 8, 16, 24, 32, 40, 48}, {0, 0, 4, 8, 16, 24, 32, 40, 48}, {0, 4, 12, 20, 28, 36, 44, 52, 60},
+            {0, 0, 0, 4, 12, 20, 28, 36, 44}, {0, 0, 0, 4, 12, 20, 28, 36, 44}};
+        for (int f = 0; f < want.length; f++) {
+            lay(0, BYTES, 9, rising(9, 8, 8));
+            room.apply(0, f, NOUGHT);
+            duePicture("moved by FILTER " + f, 0, BYTES, 9, want[f]);
+        }
     }
 
     private void weight() {
@@ -423,12 +453,38 @@ final class BoundsOfFilters extends Bounds {
         due("all of the greatest size", room.apply(0, 1, HELD), 256);
         due("all of the greatest size", room.about(0, 5), -256);
 
+        tallAndWide();
         says(13, "BAD; NO: it is MISSING.");
         refused(BAD, "apply", APPLY, numbers(-1, 0, 0), numbers(8, 0, 0), numbers(0, -1, 0), numbers(0, 9, 0),
                 numbers(0, 24, 0), numbers(0, MIN, 0), numbers(0, MAX, 0), numbers(0, 0, -1), numbers(0, 0, 4),
                 numbers(0, 0, MIN), numbers(0, 0, MAX), numbers(MIN, MAX, 0));
         refused(BAD, "BAD is ahead of NO: apply", APPLY, numbers(6, 9, 0), numbers(6, 0, 4), numbers(6, -1, 0));
         refused(NO, "apply", APPLY, numbers(6, 0, 0), numbers(7, 8, 3));
+    }
+
+    /** One wide and one high, so that w and h can't stand for one another. */
+    private void tallAndWide() {
+        room = new DarkRoom();
+        room.filter(SQUARE, 1, 0);
+        room.weight(0, 4, 2);
+        room.weight(0, 3, 1);
+        room.weight(0, 1, 1);
+        room.filter(RANK, 5, 0);
+        room.filter(TURN, 0, 0);
+        room.filter(WHERE, 0, 2);
+        room.filter(BOTH, 0, 3);
+        room.mask(0, 0, 3, true);
+        room.mask(0, 3, 0, true);
+        int[][] want = {{2, 5, 8, 11, 14}, {0, 0, 0, 0, 0}, {254, 253, 252, 251, 250}, {1, 2, 3, 251, 5},
+            {1, 3, 5, 131, 9}};
+        for (int f = 0; f < want.length; f++) {
+            for (int w = 1; w <= 5; w += 4) {
+                lay(0, BYTES, w, 1, 2, 3, 4, 5);
+                due("FILTER " + f + ", " + w + " wide", room.apply(0, f, NOUGHT),
+                        changes(numbers(1, 2, 3, 4, 5), want[f]));
+                duePicture("FILTER " + f + ", " + w + " wide", 0, BYTES, w, want[f]);
+            }
+        }
     }
 
     private void mask() {
@@ -476,6 +532,10 @@ final class BoundsOfFilters extends Bounds {
         room = new DarkRoom();
         room.picture(0, BYTES, 16, 16);
         due("at all", room.maskOf(0, 0, 0, 0), 256);
+        Scene.wear(room);
+        lay(1, BYTES, 2, 3, 4);
+        due("in a worn room", room.maskOf(1, 1, 4, 4), 1);
+        due("in a worn room", room.isOn(1, 1, 0), 1);
         due("at none", room.maskOf(0, 0, 1, 255), 0);
         room.put(0, 15, 15, 255);
         due("at the last", room.maskOf(0, 0, 1, 255), 1);
@@ -615,7 +675,9 @@ final class BoundsOfFilters extends Bounds {
         refused(BAD, "isOn", IS_ON, numbers(-1, 0, 0), numbers(6, 0, 0), numbers(0, -1, 0), numbers(0, 16, 0),
                 numbers(0, 0, -1), numbers(0, 0, 16), numbers(MIN, 0, 0), numbers(0, MAX, 0), numbers(0, 0, MIN),
                 numbers(0, 33, 1), numbers(5, 47, 15));
-        refused(1, "no act: isOn", IS_ON, numbers(0, 1, 1), numbers(5, 15, 15));
-        refused(0, "no act: isOn", IS_ON, numbers(0, 0, 0), numbers(5, 0, 0));
+        noAct(1, "isOn", IS_ON, 0, 1, 1);
+        noAct(1, "isOn", IS_ON, 5, 15, 15);
+        noAct(0, "isOn", IS_ON, 0, 0, 0);
+        noAct(0, "isOn", IS_ON, 5, 0, 0);
     }
 }

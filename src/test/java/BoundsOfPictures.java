@@ -103,8 +103,29 @@ final class BoundsOfPictures extends Bounds {
             due("none stands", room.count(1), 0);
             due("MISSING again", room.picture(7, MISSING, size[0], size[1]), 0);
         }
+        missingInWornRoom();
         refused(BAD, "picture", PICTURE, numbers(0, -2, 1, 1), numbers(0, 2, 1, 1), numbers(0, MIN, 1, 1),
                 numbers(0, MAX, 1, 1), numbers(-1, MISSING, 0, 0), numbers(8, MISSING, 1, 1), numbers(6, 2, 1, 1));
+    }
+
+    private void missingInWornRoom() {
+        room = new DarkRoom();
+        Scene.wear(room);
+        room.picture(0, BYTES, 3, 3);
+        due("MISSING", room.picture(0, MISSING, 3, 3), 0);
+        due("KIND", room.about(0, 0), NONE);
+        due("sum", room.about(0, 5), NONE);
+        due("at", room.at(0, 0, 0, HELD), BAD);
+        due("put", room.put(0, 0, 0, 0), BAD);
+        due("feed", room.feed(0, 0, 0, 0L, 2), BAD);
+        due("fill", room.fill(0, 0, 0, 0, 0), NO);
+        due("dither", room.dither(0, 2), NO);
+        due("energy", room.energy(0, 0, 0), NO);
+        due("seam", room.seam(0, 0), NO);
+        due("seamGoes", room.seamGoes(0, 1), NO);
+        due("runs", room.runs(0, 0), NO);
+        due("unlike", room.unlike(0, 0), NO);
+        due("none stands", room.count(1), 0);
     }
 
     private void put() {
@@ -256,7 +277,7 @@ final class BoundsOfPictures extends Bounds {
         refused(BAD, "at", AT, numbers(0, 1001, 0, 0), numbers(0, -1001, 0, 1), numbers(0, 0, 1001, 2),
                 numbers(0, 0, -1001, 3), numbers(0, MAX, MIN, 3), numbers(0, 0, 0, -1), numbers(0, 0, 0, 4),
                 numbers(0, 0, 0, MIN), numbers(-1, 0, 0, 0), numbers(8, 0, 0, 0), numbers(6, 0, 0, 3));
-        refused(20, "no act: at", AT, numbers(0, 1, 0, 0));
+        noAct(20, "at", AT, 0, 1, 0, 0);
     }
 
     private void about() {
@@ -284,8 +305,9 @@ final class BoundsOfPictures extends Bounds {
         due("least at the end", room.about(0, 3), -30);
         refused(BAD, "about", ABOUT, numbers(0, -1), numbers(0, 6), numbers(0, MIN), numbers(0, MAX), numbers(-1, 0),
                 numbers(8, 0), numbers(6, 6), numbers(6, -1));
-        refused(3, "no act: about", ABOUT, numbers(0, 1));
-        refused(NONE, "no act: about", ABOUT, numbers(6, 0), numbers(7, 5));
+        noAct(3, "about", ABOUT, 0, 1);
+        noAct(NONE, "about", ABOUT, 6, 0);
+        noAct(NONE, "about", ABOUT, 7, 5);
     }
 
     private void convert() {
@@ -441,7 +463,7 @@ final class BoundsOfPictures extends Bounds {
         refused(BAD, "BAD is ahead of NO: unlike", UNLIKE, numbers(6, 8), numbers(-1, 6));
         refused(NO, "unlike", UNLIKE, numbers(0, 6), numbers(6, 0), numbers(6, 6), numbers(6, 7), numbers(0, 1),
                 numbers(2, 4), numbers(4, 2), numbers(3, 5), numbers(5, 3));
-        refused(0, "no act: unlike", UNLIKE, numbers(0, 0));
+        noAct(0, "unlike", UNLIKE, 0, 0);
         lay(3, BYTES, 2, 1, 2, 3, 4, 5, 6);
         lay(4, BYTES, 3, 1, 2, 3, 4, 5, 6);
         due("as many PIXELS, but another size", room.unlike(3, 4), NO);

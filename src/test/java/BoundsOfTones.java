@@ -67,6 +67,13 @@ final class BoundsOfTones extends Bounds {
         filledFrom(0, 0, 65535, wide, alike(4, 99));
         filledFrom(1, 0, 65534, wide, -32768, 99, -32768, 32767);
         filledFrom(1, 0, 65535, wide, alike(4, 99));
+        for (int w = 1; w <= 2; w++) {
+            for (int first = 0; first < 2; first++) {
+                lay(0, BYTES, w, 5, 5);
+                due("to the one neighbour", room.fill(0, w == 2 ? first : 0, w == 1 ? first : 0, 0, 9), 2);
+                duePicture("to the one neighbour", 0, BYTES, w, 9, 9);
+            }
+        }
         room = new DarkRoom();
         room.picture(0, BYTES, 16, 16);
         due("all of the greatest size", room.fill(0, 15, 15, 0, 255), 256);
@@ -179,6 +186,11 @@ final class BoundsOfTones extends Bounds {
         due("none", room.dither(7, 2), 0);
         lay(7, BYTES, 16, alike(256, 1));
         due("all of the greatest size", room.dither(7, 16), 256 - ones(7));
+        lay(7, BYTES, 2, 127, 72, 60, 60);
+        due("nothing is carried from one PICTURE to the next", room.dither(7, 2), 4);
+        lay(6, BYTES, 2, 0, 127, 104, 127);
+        due("nothing is carried from one PICTURE to the next", room.dither(6, 2), 3);
+        duePicture("nothing is carried from one PICTURE to the next", 6, BYTES, 2, 0, 0, 0, 255);
         refused(BAD, "dither", DITHER, numbers(0, 1), numbers(0, 17), numbers(0, 0), numbers(0, -1), numbers(0, MIN),
                 numbers(0, MAX), numbers(-1, 2), numbers(8, 2));
         refused(BAD, "BAD is ahead of NO: dither", DITHER, numbers(1, 1), numbers(1, 17), numbers(6, 1), numbers(6, 17));
@@ -261,7 +273,7 @@ final class BoundsOfTones extends Bounds {
                 numbers(0, -1, 0), numbers(0, 0, -1), numbers(0, MIN, 0), numbers(0, 0, MAX), numbers(4, 16, 0),
                 numbers(4, 0, 16));
         // 11 is held for the left neighbour and for the one above.
-        refused(20 - 11 + 40 - 11, "no act: energy", ENERGY, numbers(0, 0, 0));
+        noAct(20 - 11 + 40 - 11, "energy", ENERGY, 0, 0, 0);
     }
 
     private void dueSeam(String call, int energy, int... columns) {
@@ -304,13 +316,13 @@ final class BoundsOfTones extends Bounds {
         refused(BAD, "BAD is ahead of NO: seam", SEAM, numbers(6, -2), numbers(8, 16));
         refused(NO, "seam", SEAM, numbers(6, 0), numbers(6, -1), numbers(7, 99), numbers(0, 2), numbers(0, MAX),
                 numbers(4, 16), numbers(5, 1));
-        refused(0, "no act: seam", SEAM, numbers(5, 0), numbers(5, -1), numbers(4, 1));
+        noAct(0, "seam", SEAM, 5, 0);
+        noAct(0, "seam", SEAM, 5, -1);
+        noAct(0, "seam", SEAM, 4, 1);
     }
 
-    /** Each row of SHORTS is 0 but for what is told; THE SEAM by hand. */
     private void seamTies() {
         says(22, "A SEAM has one PIXEL in each row, those next to one another at most one x apart;");
-        // ENERGY in row 0: 0 where nothing stands beside, above and beneath; it is free at 0 above and at 4 beneath.
         lay(0, BYTES, 5, 7, 7, 0, 9, 0, 7, 7, 0, 9, 0);
         int[] row = {0, 7, 2, 0, 9};
         for (int x = 0; x < 5; x++) {
@@ -318,8 +330,12 @@ final class BoundsOfTones extends Bounds {
             due("ENERGY at " + x, room.energy(0, x, 1), row[x]);
         }
         dueSeam("straight", 0, 0, 0);
-        lay(0, BYTES, 4, 50, 0, 50, 50, 0, 50, 90, 90, 90, 90, 0, 0);
-        dueLeastOfAll("two apart can't be", 4, 3);
+        // ENERGY 0, 180, 90 above and 90, 180, 0 beneath: it would be 0 if 0 and 2 could stand together.
+        lay(0, BYTES, 3, 90, 90, 0, 90, 0, 0);
+        dueSeam("two apart can't be", 90, 0, 0);
+        // ENERGY 155, 105, 95 above and 70, 85, 160 beneath: it would be 165 if 2 and 0 could stand together.
+        lay(0, BYTES, 3, 90, 5, 0, 20, 20, 90);
+        dueSeam("one apart can be", 175, 1, 0);
 
         says(22, "THE SEAM has the least ENERGY together; of these the one whose x in the last row is least, then in the "
                 + "one above, and so on up.");
@@ -386,6 +402,17 @@ final class BoundsOfTones extends Bounds {
         lay(0, SHORTS, 3, -1, 8, 9, -1, 8, 9);
         due("doubled on the right", room.seamGoes(0, 1), 4);
         duePicture("doubled on the right", 0, SHORTS, 4, -1, 8, 9, 9, -1, 8, 9, 9);
+        lay(0, BYTES, 2, 0, 1, 2, 3, 4, 5, 6, 7, 8, 9);
+        due("higher than wide", room.seamGoes(0, 0), 1);
+        duePicture("higher than wide", 0, BYTES, 1, 1, 3, 5, 7, 9);
+        lay(0, BYTES, 3, 1, 5, 5);
+        lay(1, BYTES, 3, 5, 5, 1);
+        due("traced in the other one", room.seam(0, 0), 2);
+        due("doubled", room.seamGoes(1, 1), 4);
+        duePicture("doubled", 1, BYTES, 4, 5, 5, 5, 1);
+        due("traced in the other one", room.seam(1, 0), 0);
+        due("goes", room.seamGoes(0, 0), 2);
+        duePicture("goes", 0, BYTES, 2, 1, 5);
         aslant();
 
         says(23, "BAD; NO: MISSING; the WIDTH would be 0 or 17.");
@@ -497,8 +524,8 @@ final class BoundsOfTones extends Bounds {
         refused(BAD, "runs", RUNS, numbers(0, -2), numbers(0, MIN), numbers(-1, -1), numbers(8, -1), numbers(8, 0));
         refused(BAD, "BAD is ahead of NO: runs", RUNS, numbers(6, -2), numbers(8, 99));
         refused(NO, "runs", RUNS, numbers(6, -1), numbers(6, 0), numbers(7, MAX));
-        refused(15, "no act: runs", RUNS, numbers(0, -1));
-        refused(NONE, "no act: runs", RUNS, numbers(0, 15));
+        noAct(15, "runs", RUNS, 0, -1);
+        noAct(NONE, "runs", RUNS, 0, 15);
     }
 
     private void tell(DarkRoom to, int... bytes) {

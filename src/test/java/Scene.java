@@ -41,6 +41,22 @@ final class Scene {
         return names.toString();
     }
 
+    /**
+     * Leaves a room as it is, but for its acts: more of them than are kept have been made, of the greatest pictures
+     * without a 0 and of masks that are ON all over, so that nothing that the room uses again is empty.
+     */
+    static void wear(DarkRoom room) {
+        room.picture(7, 1, 16, 16);
+        for (int i = 1; i <= 18; i++) {
+            room.fill(7, 0, 0, 0, -i);
+        }
+        for (int i = 0; i < 18; i++) {
+            room.maskBy(5, 4, 3);
+        }
+        room.picture(7, -1, 0, 0);
+        room.maskBy(5, 4, 4);
+    }
+
     /** A room with pictures of both kinds and of the least and greatest sides, and with something of all that can change. */
     static Scene furnished() {
         return new Scene(room -> {

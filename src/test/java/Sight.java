@@ -73,11 +73,14 @@ final class Sight {
         room.picture(7, 1, 2, 2);
         room.feed(7, 0, 0, 0x0040_FF00_0003_0064L, 8);
         for (int f = 0; f < 24; f++) {
-            seen.add(room.apply(7, f, 1));
+            int changed = room.apply(7, f, 1);
+            seen.add(changed);
             for (int i = 0; i < 4; i++) {
                 seen.add(room.at(7, i % 2, i / 2, 0));
             }
-            room.undo();
+            if (changed >= 0) {
+                room.undo();
+            }
         }
     }
 
