@@ -83,11 +83,21 @@ public final class FaceTest {
         check.due("fields that are not private", open, 4);
     }
 
+    private static int ownFields(Class<?> one) {
+        int own = 0;
+        for (Field field : one.getDeclaredFields()) {
+            own += Modifier.isStatic(field.getModifiers()) ? 0 : 1;
+        }
+        return own;
+    }
+
     private static void checkNested(Check check, Class<?> room) {
         check.holds("at most some twelve classes", room.getDeclaredClasses().length < 12);
+        check.holds("at most some twenty fields", ownFields(room) <= 20);
         for (Class<?> nested : room.getDeclaredClasses()) {
             check.holds(nested + " is static and not public", Modifier.isStatic(nested.getModifiers())
                     && !Modifier.isPublic(nested.getModifiers()) && !Modifier.isProtected(nested.getModifiers()));
+            check.holds(nested + " has at most some twenty fields", ownFields(nested) <= 20);
             for (Field field : nested.getDeclaredFields()) {
                 int modifiers = field.getModifiers();
                 check.holds(field + " is final, if static", !Modifier.isStatic(modifiers) || Modifier.isFinal(modifiers));

@@ -32,6 +32,20 @@ public final class SourceTest {
             check.holds("new " + made.group(1), code.contains("class " + made.group(1) + " ")
                     || made.group(1).equals("int") || made.group(1).equals("boolean"));
         }
+        checkLengths(check, source);
         check.end();
+    }
+
+    /** Rule 11: a method, which ends where a brace stands under its first word, has at most some sixty lines. */
+    private static void checkLengths(Check check, String source) {
+        String shape = "(?ms)^((?: {4}){1,2})(?! |for|if|while|switch|\\})[^\\n;]*\\) \\{$(.*?)^\\1\\}";
+        Matcher method = Pattern.compile(shape).matcher(source);
+        int methods = 0;
+        while (method.find()) {
+            methods++;
+            long lines = method.group(2).lines().count() + 1;
+            check.holds(method.group().lines().findFirst().orElse("").strip() + " has " + lines + " lines", lines <= 60);
+        }
+        check.holds("methods were found", methods > 100);
     }
 }
