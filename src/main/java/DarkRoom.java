@@ -259,7 +259,7 @@ public final class DarkRoom {
         if (old.isMissing()) {
             return NO;
         }
-        bench.develop(by, old, tray, masks, edge, 0);
+        Bench.develop(bench, by, old, tray, masks, edge, 0);
         int changed = tray.unlikePixels(old);
         keepPicture(p);
         return changed;
@@ -528,6 +528,9 @@ public final class DarkRoom {
 
     /** PICTURE p becomes what lies in the tray; what it was goes to the history, whose spare becomes the tray. */
     private void keepPicture(int p) {
+        if (!isPicture(p)) {
+            return;
+        }
         Act act = history.next();
         act.ofMask = false;
         act.slot = p;
@@ -538,6 +541,9 @@ public final class DarkRoom {
     }
 
     private void keepMask(int m) {
+        if (!isMask(m)) {
+            return;
+        }
         Act act = history.next();
         act.ofMask = true;
         act.slot = m;
@@ -841,30 +847,33 @@ public final class DarkRoom {
             }
         }
 
-        void develop(Filter filter, Picture from, Picture to, Mask[] masks, int edge, int depth) {
+        /** Lays in to what filter makes of from. A FILTER that has others calls this for them, one level deeper. */
+        private static void develop(Bench bench, Filter filter, Picture from, Picture to, Mask[] masks, int edge,
+                int depth) {
             if (filter == null || depth < 0 || depth >= HIGHEST) {
                 return;
             }
+            Picture between = bench.between[depth];
             to.shape(from.kind, from.width, from.height);
             switch (filter.kind) {
                 case SQUARE:
                 case RANK:
-                    developAround(filter, from, to, edge);
+                    bench.developAround(filter, from, to, edge);
                     break;
                 case THEN:
-                    develop(filter.first, from, between[depth], masks, edge, depth + 1);
-                    develop(filter.second, between[depth], to, masks, edge, depth + 1);
+                    develop(bench, filter.first, from, between, masks, edge, depth + 1);
+                    develop(bench, filter.second, between, to, masks, edge, depth + 1);
                     break;
                 case WHERE:
-                    develop(filter.first, from, to, masks, edge, depth + 1);
+                    develop(bench, filter.first, from, to, masks, edge, depth + 1);
                     if (isMask(filter.a)) {
                         restoreUnlit(masks[filter.a], from, to);
                     }
                     break;
                 case BOTH:
-                    develop(filter.first, from, to, masks, edge, depth + 1);
-                    develop(filter.second, from, between[depth], masks, edge, depth + 1);
-                    halve(between[depth], to);
+                    develop(bench, filter.first, from, to, masks, edge, depth + 1);
+                    develop(bench, filter.second, from, between, masks, edge, depth + 1);
+                    halve(between, to);
                     break;
                 default:
                     developEach(filter, from, to);
