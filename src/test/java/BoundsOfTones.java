@@ -134,6 +134,9 @@ final class BoundsOfTones extends Bounds {
         // All four ahead of the fifth carry what 64 leaves, so it is 319, which is nearest to 3 of the LEVELS 0 to 2.
         dithered(3, 3, new int[] {191, 163, 163, 159, 255, 12}, 127, 127, 127, 127, 255, 127);
         dithered(3, 3, new int[] {191, 163, 163, 159, 255, 11}, 127, 127, 127, 127, 255, 0);
+        // -41 and three times -42 carry -43 to the fifth, which is nearest to -1 of the LEVELS 0 to 3, and go on as -43.
+        dithered(4, 3, new int[] {44, 60, 61, 62, 0, 77}, 85, 85, 85, 85, 0, 0);
+        dithered(4, 3, new int[] {44, 60, 61, 62, 0, 78}, 85, 85, 85, 85, 0, 85);
         // All three ahead of the fourth carry what -127 leaves, so it is -104.
         dithered(2, 2, new int[] {128, 183, 190, 0}, 255, 255, 255, 0);
     }
