@@ -7,7 +7,7 @@ import java.util.Deque;
 import java.util.IdentityHashMap;
 import java.util.Set;
 
-/** All that a run makes lives in one room: an object is small, and no call but filter() makes anything. */
+/** All that a run makes lives in one room: an object is small, and no call but filter() adds to what it keeps. */
 public final class RoomTest {
     private static final int MOST_OBJECTS = 300;
     private static final int MOST_ELEMENTS = 12000;
